@@ -108,7 +108,7 @@ public final class SweepBench {
 
     public int output(int circuit, int s) {
         Circuit owner = circuitAt(circuit);
-        if (owner == null || !owner.hasSignal(s) || owner.outCount >= MAX_OUTPUTS) {
+        if (owner == null || owner.outCount >= MAX_OUTPUTS || !owner.hasSignal(s)) {
             return NONE;
         }
         int number = owner.addOut(s);
@@ -396,8 +396,11 @@ public final class SweepBench {
             return hasSignal(a) && hasSignal(b) && (!takesThird || hasSignal(c));
         }
 
-        /** The caller has asked canTake. */
+        /** The caller has asked that the SIGNALS it takes are there. */
         int addGate(int kind, int a, int b, int c) {
+            if (gateCount >= MAX_GATES) {
+                return NONE;
+            }
             kinds[gateCount] = kind;
             firsts[gateCount] = a;
             seconds[gateCount] = b;
@@ -406,8 +409,11 @@ public final class SweepBench {
             return inputCount + gateCount - 1;
         }
 
-        /** The caller has asked that there is room for one OUTPUT more. */
+        /** The caller has asked that the SIGNAL is there. */
         int addOut(int s) {
+            if (outCount >= MAX_OUTPUTS) {
+                return NONE;
+            }
             outs[outCount] = s;
             outCount++;
             return outCount - 1;
@@ -440,13 +446,15 @@ public final class SweepBench {
             size = 0;
         }
 
-        /** The caller has asked that it is an INPUT WORD. */
         boolean has(int word) {
+            if (word < 0 || word >= MAX_VECTORS) {
+                return false;
+            }
             return (bits[word >> BITS_LOG] >>> (word & BITS - 1) & 1L) != 0L;
         }
 
         void add(int word) {
-            if (size >= MAX_VECTORS || has(word)) {
+            if (word < 0 || word >= MAX_VECTORS || size >= MAX_VECTORS || has(word)) {
                 return;
             }
             int w = word >> BITS_LOG;
@@ -552,7 +560,9 @@ public final class SweepBench {
         }
 
         private void makeFalse() {
-            Arrays.fill(rows, 0, rowWords, 0L);
+            for (int w = 0; w < rowWords; w++) {
+                rows[w] = 0L;
+            }
             addNode(0, 0);
         }
 
@@ -747,7 +757,9 @@ public final class SweepBench {
         }
 
         void findNeeded(Graph graph, Circuit first, Circuit second) {
-            Arrays.fill(needed, false);
+            for (int x = 0; x < graph.nodeCount; x++) {
+                needed[x] = false;
+            }
             markOuts(first);
             markOuts(second);
             neededAnds = 0;
@@ -1054,10 +1066,12 @@ public final class SweepBench {
         }
 
         private boolean needsItself(int and) {
-            Arrays.fill(reached, false);
+            for (int k = 0; k < MAX_TEXT_ANDS; k++) {
+                reached[k] = false;
+            }
             queued = 0;
             reachSides(and);
-            for (int k = 0; k < queued; k++) {
+            for (int k = 0; k < queued && k < MAX_TEXT_ANDS; k++) {
                 reachSides(queue[k]);
             }
             return reached[and];
@@ -1070,7 +1084,7 @@ public final class SweepBench {
 
         /** Each AND is queued once, so the queue has room for all. */
         private void reach(int and) {
-            if (and != NONE && !reached[and]) {
+            if (and != NONE && !reached[and] && queued < MAX_TEXT_ANDS) {
                 reached[and] = true;
                 queue[queued] = and;
                 queued++;
