@@ -413,7 +413,9 @@ public final class PromisesTest {
 
     private static void sweepOfInputs() {
         SweepBench x = bench(2);
+        due("14: one group", x.count(7), 1);
         due("17: sweep()", x.sweep(), 0);
+        due("14: parted by what was found", x.count(7), 3);
         // Input 0 is asked twice: as false by no vector, then by word 1 as its contrary.
         told(x, 3, 3, 0, 3);
         int[] words = {1, 0, 2};
@@ -567,6 +569,11 @@ public final class PromisesTest {
             due("21: differs(" + i + ")", x.differs(i), NONE);
         }
         due("20: no vector comes", x.count(6), 0);
+        x.output(1, 2);
+        x.output(1, 0);
+        due("20: both have it now", x.same(2), 1);
+        due("20: circuit 0 has none", x.same(3), NONE);
+        due("21: circuit 0 has none", x.differs(3), NONE);
         SweepBench y = bench(12);
         int all = y.gate(0, 0, 0, 1, 0);
         for (int i = 2; i < 12; i++) {

@@ -134,6 +134,11 @@ public final class TextsTest {
         fault("aag 200 2 0 0 120x", 2, 14);
         fault("aag 2 2 0 0 1x", 2, 4);
         fault("aag 1 2 0 x", 1, 10);
+        // So I, L, O and A are asked ahead of M against I and A, which needs all of them.
+        fault("aag 3 3 0 1 1\n", 2, 6);
+        fault("aag 2 2 1 0 1\n", 2, 8);
+        fault("aag 2 2 0 11 1\n", 2, 10);
+        fault("aag 2 2 0 0 120\n", 2, 12);
     }
 
     private static void numbers() {
@@ -143,6 +148,10 @@ public final class TextsTest {
         fault("aag 999999999 2 0 1 1\n", 2, 4);
         fault("aag 1234567890 2 0 1 1\n", 2, 4);
         fault("aag 3 2 0 1 1\n02\n", 3, 14);
+        // 2 to the 32 and a little: more digits than may stand, so it is not 2.
+        fault("aag 4294967299 2 0 1 1\n", 2, 4);
+        fault("aag 3 2 0 1 1\n4294967298\n", 3, 14);
+        fault("aag 3 2 0 1 1\n2\n4\n4294967298\n", 4, 18);
         fault("aag 3 2 0 1 1\n2\n4\n1234567890\n", 4, 18);
         fault("aag 3 2 0 1 1\n2\n4\n999999999\n", 4, 18);
         fault("aag 3 2 0 1 1\n2\n4\n06\n", 1, 19);
