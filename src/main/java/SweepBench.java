@@ -37,6 +37,13 @@ public final class SweepBench {
     private static final int MAX_VARIABLE = 1000;
     private static final int MAX_USES = MAX_OUTPUTS + 2 * MAX_TEXT_ANDS;
 
+    private static final int HEAD_VARIABLES = 0;
+    private static final int HEAD_INPUTS = 1;
+    private static final int HEAD_LATCHES = 2;
+    private static final int HEAD_OUTS = 3;
+    private static final int HEAD_ANDS = 4;
+    private static final int HEAD_NUMBERS = 5;
+
     private static final int BAD_BYTE = 1;
     private static final int BAD_HEAD = 2;
     private static final int BAD_DEFINITION = 3;
@@ -811,12 +818,15 @@ public final class SweepBench {
     /** What a TAPE tells as ASCII AIGER, up to its first FAULT. */
     private static final class AigerText {
         final Tape tape;
+        final int[] head = new int[HEAD_NUMBERS];
+        final int[] headPlaces = new int[HEAD_NUMBERS];
         /** Of each variable: 0 nothing, 1 .. n the inputs, above n the ANDs along the text. */
         final int[] definers = new int[MAX_VARIABLE + 1];
         /** LITERALS used, along the text: of the OUTPUTS, then two of each AND. */
         final int[] uses = new int[MAX_USES];
         final int[] usePlaces = new int[MAX_USES];
         final int[] andPlaces = new int[MAX_TEXT_ANDS];
+        int headCount;
         int inputCount;
         int outCount;
         int andCount;
@@ -864,7 +874,9 @@ public final class SweepBench {
         }
 
         private void startAnew(int inputs) {
+            Arrays.fill(head, 0);
             Arrays.fill(definers, 0);
+            headCount = 0;
             inputCount = inputs;
             outCount = 0;
             andCount = 0;
@@ -881,21 +893,55 @@ public final class SweepBench {
             expect('a');
             expect('a');
             expect('g');
-            int variables = parseHeadNumber();
-            int variablesAt = numberAt;
-            failIf(variables > MAX_VARIABLE, BAD_HEAD, variablesAt);
-            int inputs = parseHeadNumber();
-            failIf(inputs != inputCount, BAD_HEAD, numberAt);
-            int latches = parseHeadNumber();
-            failIf(latches != 0, BAD_HEAD, numberAt);
-            outCount = parseHeadNumber();
-            failIf(outCount > MAX_OUTPUTS, BAD_HEAD, numberAt);
-            andCount = parseHeadNumber();
-            failIf(andCount > MAX_TEXT_ANDS, BAD_HEAD, numberAt);
-            // It can be asked only now that I and A are known.
-            failIf(variables < inputs + andCount, BAD_HEAD, variablesAt);
+            for (int k = 0; k < HEAD_NUMBERS && fault == 0; k++) {
+                parseHeadNumber();
+            }
+            askHeadNumbers();
             expect('\n');
-            highestLiteral = 2 * variables + 1;
+            outCount = head[HEAD_OUTS];
+            andCount = head[HEAD_ANDS];
+            highestLiteral = 2 * head[HEAD_VARIABLES] + 1;
+        }
+
+        private void parseHeadNumber() {
+            expect(' ');
+            int number = parseNumber();
+            if (fault == 0 && headCount < HEAD_NUMBERS) {
+                head[headCount] = number;
+                headPlaces[headCount] = numberAt;
+                headCount++;
+            }
+        }
+
+        /** A FAULT that ended the reading is put aside: every NUMBER that was read stands ahead of it. */
+        private void askHeadNumbers() {
+            for (int k = 0; k < headCount; k++) {
+                if (isBadHeadNumber(k)) {
+                    fault = BAD_HEAD;
+                    faultAt = headPlaces[k];
+                    return;
+                }
+            }
+        }
+
+        private boolean isBadHeadNumber(int k) {
+            switch (k) {
+                case HEAD_VARIABLES:
+                    return head[k] > MAX_VARIABLE || hasTooFewVariables();
+                case HEAD_INPUTS:
+                    return head[k] != inputCount;
+                case HEAD_LATCHES:
+                    return head[k] != 0;
+                case HEAD_OUTS:
+                    return head[k] > MAX_OUTPUTS;
+                default:
+                    return head[k] > MAX_TEXT_ANDS;
+            }
+        }
+
+        /** It can't be asked of a text that breaks off ahead of A. */
+        private boolean hasTooFewVariables() {
+            return headCount == HEAD_NUMBERS && head[HEAD_VARIABLES] < head[HEAD_INPUTS] + head[HEAD_ANDS];
         }
 
         private void parseInputLines() {
@@ -942,11 +988,6 @@ public final class SweepBench {
                 useCount++;
                 usesConstant = usesConstant || found < 2;
             }
-        }
-
-        private int parseHeadNumber() {
-            expect(' ');
-            return parseNumber();
         }
 
         /** 0 once there is a FAULT. */

@@ -13,6 +13,9 @@ final class AigerTexts {
 
     String text(int inputs) {
         String text = whole(inputs);
+        if (random.nextInt(6) == 0) {
+            return spoilHead(text, inputs);
+        }
         int spoils = Math.max(0, random.nextInt(5) - 2);
         for (int k = 0; k < spoils; k++) {
             text = random.nextBoolean() ? spoilNumber(text) : spoilByte(text);
@@ -63,6 +66,23 @@ final class AigerTexts {
             return random.nextInt(2);
         }
         return 2 * names.get(random.nextInt(reach)) + random.nextInt(2);
+    }
+
+    /** Several NUMBERS of the first line at once, and a byte of it at times: which FAULT is the first? */
+    private String spoilHead(String text, int inputs) {
+        int end = text.indexOf('\n');
+        String[] numbers = text.substring(4, end).split(" ");
+        String[][] others = {
+            {"0", "1001", "1000", "200", String.valueOf(inputs), String.valueOf(inputs + 3)},
+            {"0", String.valueOf(inputs + 1), String.valueOf(inputs - 1), "999999999"},
+            {"1", "00", "7"}, {"11", "10", "0", "12345678901"}, {"120", "119", "1", "999999999", "1234567890"}};
+        for (int k = 0; k < numbers.length; k++) {
+            if (random.nextInt(3) == 0) {
+                numbers[k] = others[k][random.nextInt(others[k].length)];
+            }
+        }
+        String line = "aag " + String.join(" ", numbers);
+        return (random.nextInt(3) == 0 ? spoilByte(line) : line) + text.substring(end);
     }
 
     private String spoilNumber(String text) {

@@ -1,5 +1,7 @@
 import java.util.ArrayList;
 import java.util.Arrays;
+import java.util.Collections;
+import java.util.Comparator;
 import java.util.HashMap;
 import java.util.HashSet;
 import java.util.List;
@@ -478,22 +480,23 @@ final class PlainBench {
             for (char letter : "aag".toCharArray()) {
                 take(letter);
             }
-            int[] head = new int[5];
-            int[] places = new int[5];
-            for (int k = 0; k < 5; k++) {
-                take(' ');
-                head[k] = number();
-                places[k] = numberAt;
-                boolean bad = k == 0 ? head[0] > 1000 : k == 1 ? head[1] != n : k == 2 ? head[2] != 0
-                    : k == 3 ? head[3] > 10 : head[4] > 119;
-                if (bad) {
-                    throw new Fault(2, numberAt);
+            List<int[]> numbers = new ArrayList<>();
+            List<Fault> faults = new ArrayList<>();
+            try {
+                for (int k = 0; k < 5; k++) {
+                    take(' ');
+                    int found = number();
+                    numbers.add(new int[] {found, numberAt});
                 }
+                take('\n');
+            } catch (Fault broken) {
+                faults.add(broken);
             }
-            if (head[0] < head[1] + head[4]) {
-                throw new Fault(2, places[0]);
+            addHeadFaults(numbers, faults);
+            if (!faults.isEmpty()) {
+                throw Collections.min(faults, Comparator.comparingInt(fault -> fault.place));
             }
-            take('\n');
+            int[] head = numbers.stream().mapToInt(number -> number[0]).toArray();
             int highest = 2 * head[0] + 1;
             Map<Integer, Integer> inputOf = new HashMap<>();
             Map<Integer, Integer> andOf = new HashMap<>();
@@ -540,6 +543,29 @@ final class PlainBench {
             order(ands, signals, gates);
             for (int i = 0; i < head[3]; i++) {
                 outs.add(signal(signals, uses.get(i)[0]));
+            }
+        }
+
+        /** All of them, in no order: which one is the first along the text is asked behind. */
+        private void addHeadFaults(List<int[]> numbers, List<Fault> faults) {
+            int known = numbers.size();
+            if (known == 5 && numbers.get(4)[0] > 119) {
+                faults.add(new Fault(2, numbers.get(4)[1]));
+            }
+            if (known == 5 && numbers.get(0)[0] < numbers.get(1)[0] + numbers.get(4)[0]) {
+                faults.add(new Fault(2, numbers.get(0)[1]));
+            }
+            if (known > 3 && numbers.get(3)[0] > 10) {
+                faults.add(new Fault(2, numbers.get(3)[1]));
+            }
+            if (known > 2 && numbers.get(2)[0] != 0) {
+                faults.add(new Fault(2, numbers.get(2)[1]));
+            }
+            if (known > 1 && numbers.get(1)[0] != n) {
+                faults.add(new Fault(2, numbers.get(1)[1]));
+            }
+            if (known > 0 && numbers.get(0)[0] > 1000) {
+                faults.add(new Fault(2, numbers.get(0)[1]));
             }
         }
 

@@ -7,6 +7,7 @@ public final class TextsTest {
         readAndPlace();
         bytes();
         head();
+        firstOfHead();
         numbers();
         definitions();
         uses();
@@ -134,11 +135,36 @@ public final class TextsTest {
         fault("aag 200 2 0 0 120x", 2, 14);
         fault("aag 2 2 0 0 1x", 2, 4);
         fault("aag 1 2 0 x", 1, 10);
-        // So I, L, O and A are asked ahead of M against I and A, which needs all of them.
-        fault("aag 3 3 0 1 1\n", 2, 6);
-        fault("aag 2 2 1 0 1\n", 2, 8);
-        fault("aag 2 2 0 11 1\n", 2, 10);
-        fault("aag 2 2 0 0 120\n", 2, 12);
+    }
+
+    /** The first along the text, though M against I and A can be asked only once A is there. */
+    private static void firstOfHead() {
+        fault("aag 3 3 0 1 1\n", 2, 4);
+        fault("aag 2 2 1 0 1\n", 2, 4);
+        fault("aag 2 2 0 11 1\n", 2, 4);
+        fault("aag 2 2 0 0 120\n", 2, 4);
+        fault("aag 3 3 1 11 120\0", 2, 4);
+        fault("aag 3 3 1 11 120", 2, 4);
+        fault("aag 3 3 1 11 1234567890\n", 2, 4);
+        fault("aag 9 999999999 1 11 999999999\n", 2, 4);
+        fault("aag 1001 3 1 11 120\n", 2, 4);
+        // By the I and the A that the text tells, not by n: 3 and 6 are 9.
+        fault("aag 9 3 0 0 6\n", 2, 6);
+        fault("aag 9 3 0 0 7\n", 2, 4);
+        fault("aag 6 1 0 0 5\n", 2, 6);
+        // Without M's, the first of the others.
+        fault("aag 999 3 1 11 120\n", 2, 8);
+        fault("aag 999 2 1 11 120\n", 2, 10);
+        fault("aag 999 2 0 11 120\n", 2, 12);
+        fault("aag 999 2 0 10 120\n", 2, 15);
+        // A text that breaks off ahead of A: M is not asked against it, the others are.
+        fault("aag 3 3 1 11 x", 2, 6);
+        fault("aag 3 2 1 11 x", 2, 8);
+        fault("aag 3 2 0 11", 2, 10);
+        fault("aag 3 2 0 1 x", 1, 12);
+        fault("aag 1 3x1 11 120\n", 2, 6);
+        fault("aag 1 2 0 0\n", 1, 11);
+        fault("aag 00 3 0 0 0\n", 1, 5);
     }
 
     private static void numbers() {
