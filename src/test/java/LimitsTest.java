@@ -1,5 +1,6 @@
 import com.sun.management.ThreadMXBean;
 import java.lang.management.ManagementFactory;
+import java.util.Random;
 
 /** The fullest bench that calls can make, wild arguments in every state, and the room that a run takes. */
 public final class LimitsTest {
@@ -9,6 +10,10 @@ public final class LimitsTest {
 
     public static void main(String[] args) {
         fullest();
+        fullestInEveryWay();
+        rowsGrowTwice();
+        forgetAgainAndAgain();
+        vectorsAllAlongTheRows();
         wildArguments();
         room();
         CHECK.finish();
@@ -34,8 +39,10 @@ public final class LimitsTest {
     private static void fullest() {
         SweepBench x = full(12);
         CHECK.due("gates", x.count(2) + x.count(3), 240);
-        CHECK.due("nearly all nodes", x.count(0) > 900, true);
-        CHECK.due("no more than there can be", x.count(0) <= 973, true);
+        CHECK.due("false, 12 inputs, four ANDs a gate", x.count(0), 973);
+        CHECK.due("the last node", x.node(972, 0) > 0, true);
+        CHECK.due("none behind it", x.node(973, 0), SweepBench.NONE);
+        CHECK.due("nor a group of it", x.node(973, 2), SweepBench.NONE);
         int merged = x.sweep();
         CHECK.due("own and others", merged + x.told(3), x.count(0));
         CHECK.due("found are vectors", x.told(0), x.count(6));
@@ -44,6 +51,95 @@ public final class LimitsTest {
         for (int k = 0; k < x.count(0); k++) {
             CHECK.due("the representative is the least of its group", x.swept(k) >> 1, x.node(k, 2));
         }
+    }
+
+    /** All limits at once, by the 512 calls of an object, held against PlainBench. */
+    private static void fullestInEveryWay() {
+        SweepBench x = new SweepBench();
+        PlainBench plain = new PlainBench();
+        Random random = new Random(5);
+        int calls = fillBoth(x, plain, random);
+        for (int k = 0; k < 150; k++) {
+            CHECK.due("feed " + k, x.feed(k, k, k, k, k), plain.feed(k, k, k, k, k));
+        }
+        calls += 150;
+        CHECK.due("sweep()", x.sweep(), plain.sweep());
+        CHECK.due("verdict()", x.verdict(), plain.verdict());
+        for (int k = -1; k < 10; k++) {
+            CHECK.due("count(" + k + ")", x.count(k), plain.count(k));
+            CHECK.due("differs(" + k + ")", x.differs(k), plain.differs(k));
+        }
+        calls += 24;
+        for (int what = -1; what < 4; what++) {
+            CHECK.due("told(" + what + ")", x.told(what), plain.told(what));
+            CHECK.due("node(972, " + what + ")", x.node(972, what), plain.node(972, what));
+        }
+        CHECK.due("literal(1, ~131)", x.literal(1, ~131), plain.literal(1, ~131));
+        calls += 11;
+        for (int k = 973; calls < 512; k--) {
+            CHECK.due("swept(" + k + ")", x.swept(k), plain.swept(k));
+            calls++;
+        }
+    }
+
+    /** 120 gates MAJ and 10 outputs of both circuits, of any signals: how many calls that took. */
+    private static int fillBoth(SweepBench x, PlainBench plain, Random random) {
+        x.inputs(12);
+        plain.inputs(12);
+        for (int circuit = 0; circuit < 2; circuit++) {
+            for (int g = 0; g < 120; g++) {
+                int a = circuit == 0 ? 11 + g : ~(11 + g);
+                int b = g == 0 ? 0 : random.nextInt(11 + g);
+                int c = random.nextInt(12);
+                CHECK.due("gate " + g, x.gate(circuit, 7, a, ~b, c), plain.gate(circuit, 7, a, ~b, c));
+            }
+            for (int i = 0; i < 10; i++) {
+                int s = 131 - 7 * i;
+                CHECK.due("output " + i, x.output(circuit, s), plain.output(circuit, s));
+            }
+        }
+        return 261;
+    }
+
+    /** Rows that were made for 7 inputs do not hold the graph of 12. */
+    private static void rowsGrowTwice() {
+        for (int inputs = 1; inputs < 12; inputs++) {
+            SweepBench x = full(inputs);
+            x.sweep();
+            x.inputs(12);
+            for (int g = 0; g < 120; g++) {
+                x.gate(0, 7, 11 + g, ~(g % 12), (g + 1) % 12);
+            }
+            CHECK.due("12 inputs behind " + inputs, x.count(0), 493);
+            CHECK.due("12 inputs behind " + inputs, x.value(0, 11, 4095), 1);
+            CHECK.due("12 inputs behind " + inputs, x.sweep() + x.told(3), 493);
+        }
+    }
+
+    private static void forgetAgainAndAgain() {
+        SweepBench x = new SweepBench();
+        x.inputs(12);
+        for (int k = 0; k < 150; k++) {
+            CHECK.due("vector", x.vector(k), 1);
+            CHECK.due("groups", x.count(7), 1);
+            CHECK.due("forget", x.forget(), 1);
+        }
+    }
+
+    /** A vector in each of the 64 parts of a row, which leave nodes LIKE one another. */
+    private static void vectorsAllAlongTheRows() {
+        SweepBench x = new SweepBench();
+        x.inputs(12);
+        for (int k = 0; k < 64; k++) {
+            CHECK.due("vector " + k, x.vector(64 * k), k + 1);
+        }
+        CHECK.due("inputs 0 to 5 are LIKE false", x.count(7), 7);
+        for (int k = 0; k <= 12; k++) {
+            CHECK.due("node " + k, x.node(k, 2), k <= 6 ? 0 : k);
+        }
+        CHECK.due("sweep()", x.sweep(), 0);
+        CHECK.due("found", x.told(0), 6);
+        CHECK.due("groups", x.count(7), 13);
     }
 
     private static void wildArguments() {
