@@ -53,7 +53,7 @@ public final class LimitsTest {
         }
     }
 
-    /** All limits at once, by the 512 calls of an object, held against PlainBench. */
+    /** All GATES, OUTPUTS, nodes and bytes at once, by the 512 calls of an object, held against PlainBench. */
     private static void fullestInEveryWay() {
         SweepBench x = new SweepBench();
         PlainBench plain = new PlainBench();
